@@ -1,0 +1,17 @@
+public final class AllTests {
+    private AllTests() {
+    }
+
+    public static void main(String[] args) {
+        FaceTests.run();
+        RuleTests.run();
+        TraderAndOrderTests.run();
+        ValueTests.run();
+        WhatIfTests.run();
+        CommandTests.run();
+        ModelTests.run();
+        if (!Check.close()) {
+            System.exit(1);
+        }
+    }
+}
