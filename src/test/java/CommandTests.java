@@ -69,6 +69,9 @@ final class CommandTests {
         Check.is(0, books.whole(11));
         type(books, "cle");
         Check.is(-10, books.runCommands());
+        books.clearCommands();
+        type(books, "clear");
+        Check.is(-15, books.runCommands());
         Check.refuses(NOT_NOW, books, books::undo);
     }
 
@@ -111,6 +114,7 @@ final class CommandTests {
         runs(-15, "buyerS 5;");
         runs(-16, "buyer ");
         runs(-16, "buyer ;");
+        runs(-16, "buyer ;clear 1;");
         runs(-16, "buyer x;");
         runs(-16, "buyer -5;");
         runs(-17, "buyer 5");

@@ -20,6 +20,8 @@ final class ModelTests {
     };
 
     private long seed;
+    /** Whether prices stand at the ends of their range, and values all over theirs. */
+    private boolean wide;
     private final ShadedBooks books = new ShadedBooks();
     private final Model model = new Model();
 
@@ -41,6 +43,7 @@ final class ModelTests {
     }
 
     private void mix(int run) {
+        wide = run % 3 == 0;
         int traders = next(9);
         for (int trader = 0; trader < traders; trader++) {
             compare(run, "addTrader", next(2), 1 + next(99), 0);
@@ -118,12 +121,12 @@ final class ModelTests {
         switch (name) {
             case "addTrader":
             case "setValue":
-                return next(15) == 0 ? next(104) - 2 : 30 + next(45);
+                return next(15) == 0 ? next(104) - 2 : wide ? 1 + next(99) : 30 + next(45);
             case "setShade":
                 return next(20) == 0 ? next(7) - 1 : next(4);
             case "order":
             case "gainWith":
-                return next(15) == 0 ? next(124) - 1 : 35 + next(35);
+                return next(15) == 0 ? next(124) - 1 : wide ? priceNearAnEnd() : 35 + next(35);
             case "set":
                 return next(12) - (next(10) == 0 ? 1 : 0);
             case "trader":
@@ -136,6 +139,10 @@ final class ModelTests {
             default:
                 return next(15) == 0 ? next(14) - 2 : 1 + next(9);
         }
+    }
+
+    private int priceNearAnEnd() {
+        return next(2) == 0 ? 1 + next(3) : 118 + next(3);
     }
 
     private int next(int bound) {

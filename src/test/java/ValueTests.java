@@ -15,6 +15,7 @@ final class ValueTests {
         Check.test("promise 12: trade", ValueTests::trade);
         Check.test("promise 13: at", ValueTests::at);
         Check.test("promise 14: now", ValueTests::now);
+        Check.test("promise 14: the lowest and the highest price", ValueTests::ends);
         Check.test("promise 14: the split rounds down", ValueTests::split);
         Check.test("promise 14: hundredths", ValueTests::hundredths);
         Check.test("promise 15: whole", ValueTests::whole);
@@ -124,6 +125,26 @@ final class ValueTests {
         nowIs(books, 45, 45, 45, 1, 16, 16, 100);
         Check.refuses(OUT_OF_RANGE, books, () -> books.now(-1));
         Check.refuses(OUT_OF_RANGE, books, () -> books.now(7));
+    }
+
+    private static void ends() {
+        ShadedBooks books = new ShadedBooks();
+        books.addTrader(0, 99);
+        books.addTrader(1, 1);
+        books.order(0, 120, 1);
+        books.order(1, 120, 1);
+        nowIs(books, 120, 120, 120, 1, 98, 98, 100);
+        books.cancel(1);
+        books.order(1, 119, 2);
+        nowIs(books, 119, 120, 119, 1, 98, 98, 100);
+        books.cancel(0);
+        books.cancel(2);
+        books.order(0, 1, 3);
+        books.order(1, 1, 2);
+        nowIs(books, 1, 1, 1, 2, 196, 196, 100);
+        books.clear();
+        Check.is(1, books.whole(8));
+        Check.is(1, books.orderOf(3, 2));
     }
 
     private static void split() {
