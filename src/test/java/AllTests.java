@@ -9,6 +9,10 @@ public final class AllTests {
         ValueTests.run();
         WhatIfTests.run();
         CommandTests.run();
+        TermEdges.run();
+        TextEdges.run();
+        UndoEdges.run();
+        PromiseEdges.run();
         ModelTests.run();
         if (!Check.close()) {
             System.exit(1);

@@ -78,9 +78,9 @@ final class Check {
         return failed == 0 && passed > 0;
     }
 
-    private static String where() {
+    static String where() {
         for (StackTraceElement step : new Throwable().getStackTrace()) {
-            if (!step.getClassName().startsWith("Check")) {
+            if (!step.getClassName().startsWith("Check") && !step.getClassName().startsWith("Twins")) {
                 return " (" + step.getFileName() + ":" + step.getLineNumber() + ")";
             }
         }
