@@ -5,6 +5,7 @@ public final class AllTests {
     public static void main(String[] args) {
         FaceTests.run();
         RuleTests.run();
+        ReadmeTests.run();
         TraderAndOrderTests.run();
         ValueTests.run();
         WhatIfTests.run();
